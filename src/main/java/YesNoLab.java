@@ -8,6 +8,8 @@ public final class YesNoLab {
 
     private final int[] letterCounts = new int[MOST_FUNCTIONS];
     private final int[] tables = new int[MOST_FUNCTIONS];
+    /** The likeness numbers that were asked for, and one below 0 for the others: they are dear to find. */
+    private final int[] likenesses = new int[MOST_FUNCTIONS];
     private int count = 0;
     private final int[] weights = new int[MOST_LETTERS];
     private int weightCount = 0;
@@ -451,15 +453,11 @@ public final class YesNoLab {
     // ---- likeness, restrictions
 
     public int likeness(int function) throws IndexOutOfBoundsException {
-        return Tables.leastLike(lettersOf(function), tableOf(function));
+        return likenessOf(function);
     }
 
     public boolean areLike(int one, int other) throws IndexOutOfBoundsException {
-        int letters = lettersOf(one);
-        if (letters != lettersOf(other)) {
-            return false;
-        }
-        return Tables.leastLike(letters, tableOf(one)) == Tables.leastLike(letters, tableOf(other));
+        return lettersOf(one) == lettersOf(other) && likenessOf(one) == likenessOf(other);
     }
 
     public int restricted(int function, int keeps) throws IndexOutOfBoundsException, IllegalArgumentException {
@@ -544,6 +542,7 @@ public final class YesNoLab {
         }
         letterCounts[count] = letters;
         tables[count] = table;
+        likenesses[count] = -1;
         count++;
         return count - 1;
     }
@@ -573,6 +572,14 @@ public final class YesNoLab {
             table |= table << (1 << more);
         }
         return table;
+    }
+
+    private int likenessOf(int function) {
+        int table = tableOf(function);
+        if (likenesses[function] < 0) {
+            likenesses[function] = Tables.leastLike(lettersOf(function), table);
+        }
+        return likenesses[function];
     }
 
     private Cubes cubesOf(int function) {
@@ -724,9 +731,8 @@ public final class YesNoLab {
     }
 
     private boolean isLikenessSound(int function) {
-        int letters = lettersOf(function);
-        int like = Tables.leastLike(letters, tableOf(function));
-        return Tables.leastLike(letters, like) == like;
+        int like = likenessOf(function);
+        return Tables.leastLike(lettersOf(function), like) == like;
     }
 
     /** What is read off a table alone; one machine word holds it, so whole tables are masked and shifted at once. */
@@ -1078,11 +1084,11 @@ public final class YesNoLab {
 
         /** -1 if there is none. */
         int sizeOf(int table) {
-            if (found == 0) {
-                makeAll();
-            }
             if (table <= 0 || table >= TABLES - 1) {
                 return 0;
+            }
+            if (found == 0) {
+                makeAll();
             }
             return sizes[table] == 0 ? -1 : sizes[table];
         }
