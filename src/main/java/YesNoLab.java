@@ -499,14 +499,14 @@ public final class YesNoLab {
     }
 
     public double yesShare() throws ArithmeticException {
-        if (count == 0) {
-            throw new ArithmeticException("no functions");
-        }
         int yes = 0;
         int all = 0;
         for (int function = 0; function < count; function++) {
             yes += Integer.bitCount(tableOf(function));
             all += 1 << lettersOf(function);
+        }
+        if (all == 0) {
+            throw new ArithmeticException("no functions");
         }
         return (double) yes / (double) all;
     }
@@ -1141,7 +1141,7 @@ public final class YesNoLab {
 
         private final int[] counts = new int[TABLES];
         /** What the next gate can be of: the letters, then the gates ahead. */
-        private final int[] sources = new int[LETTERS + MOST_GATES - 1];
+        private final int[] sources = new int[LETTERS + MOST_GATES];
         private boolean isMade = false;
 
         /** One more than the most gates stands for all that need more. */
@@ -1168,16 +1168,16 @@ public final class YesNoLab {
         /** The last gate of a least circuit uses the one ahead of it, so other gates there make nothing new. */
         private void addGate(int ahead) {
             int ready = LETTERS + ahead;
+            if (ahead >= MOST_GATES || ready >= sources.length) {
+                return;
+            }
             boolean isLast = ahead == MOST_GATES - 1;
-            for (int high = isLast ? ready - 1 : 1; high < ready && high < sources.length; high++) {
+            for (int high = isLast ? ready - 1 : 1; high < ready; high++) {
                 for (int low = 0; low < high; low++) {
                     for (int way = 0; way < WAYS; way++) {
-                        int gate = made(sources[low], sources[high], way);
-                        mark(gate, ahead + 1);
-                        if (!isLast && ready < sources.length) {
-                            sources[ready] = gate;
-                            addGate(ahead + 1);
-                        }
+                        sources[ready] = made(sources[low], sources[high], way);
+                        mark(sources[ready], ahead + 1);
+                        addGate(ahead + 1);
                     }
                 }
             }
