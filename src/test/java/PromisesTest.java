@@ -451,12 +451,14 @@ public final class PromisesTest {
         begin(4, 0x8421, 0x6996, 0, 0xFFFF, 0x7BDE, 0xAAAA);
         lab.table(1, 2);
         lab.table(3, MAJORITY);
+        lab.table(4, 0x1BD6);
         due("32 alike, over two", 4, () -> lab.rank(0, 3, true));
         due("32 parity, over two", 2, () -> lab.rank(1, 3, true));
         due("32 no", 0, () -> lab.rank(2, 3, true));
         due("32 yes", 1, () -> lab.rank(3, 5, false));
         due("32 unlike, over two", 4, () -> lab.rank(4, 3, true));
         due("32 unlike, over three", 3, () -> lab.rank(4, 3, false));
+        due("32 over three, another", 3, () -> lab.rank(8, 6, false));
         due("32 three letters", 2, () -> lab.rank(7, 5, false));
         due("33 alike", 4, () -> lab.fooling(0, 3));
         due("33 unlike", 4, () -> lab.fooling(4, 3));
@@ -485,7 +487,7 @@ public final class PromisesTest {
         due(promise + " all of three letters", ARGUMENT, () -> call.answer(7, 7));
         due(promise + " no set of three letters", ARGUMENT, () -> call.answer(7, 8));
         due(promise + " one letter", ARGUMENT, () -> call.answer(6, 1));
-        due(promise + " no function", INDEX, () -> call.answer(8, 0));
+        due(promise + " no function", INDEX, () -> call.answer(9, 0));
     }
 
     // ---- promises 35 and 36
@@ -708,7 +710,11 @@ public final class PromisesTest {
             lab.table(3, 0b11001110);
             return lab.isList(8);
         });
-        due("50 no function", INDEX, () -> lab.isList(9));
+        due("50 two steps, then none", false, () -> {
+            lab.table(4, 0x0880);
+            return lab.isList(9);
+        });
+        due("50 no function", INDEX, () -> lab.isList(10));
     }
 
     // ---- promises 51 to 56
