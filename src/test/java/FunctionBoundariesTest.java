@@ -310,6 +310,9 @@ public final class FunctionBoundariesTest extends Boundaries {
         due(pairs, 0xF000, lab -> lab.bits(lab.compose(2, 1)));
         due(pairs, 0xA0A0, lab -> lab.bits(lab.compose(1, 0)));
         due(pairs, 0x8000, lab -> lab.bits(lab.compose(1, 1)));
+        // A yes at the first input and at the last one.
+        due(tables(2, 0b1001), 0x9669, lab -> lab.bits(lab.compose(0, 0)));
+        due(tables(1, 0b01, 0b10), 0b01, lab -> lab.bits(lab.compose(0, 1)));
 
         ByTwo table = (lab, one, other) -> lab.bits(lab.compose(one, other));
         byTwo(1, 0b01, 0b10, table, table);

@@ -51,6 +51,8 @@ public final class GameBoundariesTest extends Boundaries {
         says("Returns the dimension of a set of functions.");
         due(tables(1, 0, 1, 2, 3), 2, lab -> lab.dimension(15));
         due(tables(1, 0, 1, 2, 3), 1, lab -> lab.dimension(7));
+        due(tables(1, 3, 2, 1, 0), 2, lab -> lab.dimension(15));
+        due(tables(1, 3, 0), 1, lab -> lab.dimension(3));
 
         says("- `set`: the functions, as bits");
         due(NEW, -1, lab -> lab.dimension(0));
@@ -346,6 +348,8 @@ public final class GameBoundariesTest extends Boundaries {
         says("Returns true if so, false with unlike numbers of letters.");
         due(tables(4, 0, 65535), true, lab -> lab.areLike(0, 1));
         due(tables(4, 0, 1), false, lab -> lab.areLike(0, 1));
+        due(tables(4, 0, 1), false, lab -> lab.areLike(1, 0));
+        due(tables(1, 1, 0), false, lab -> lab.areLike(0, 1));
         for (int one = 1; one <= 4; one++) {
             for (int other = 1; other <= 4; other++) {
                 int letters = one;
