@@ -53,7 +53,7 @@ abstract class Boundaries {
     /** One refused call is as good as another, but an object answers for 512 calls only. */
     private static final int MOST_REFUSED = 300;
     /** With the weights 9 and -4 these bounds tell each sum of them from those next to it. */
-    private static final int[] BOUNDS = {-4, -3, 0, 1, 5, 6, 9, 10};
+    static final int[] BOUNDS = {-4, -3, 0, 1, 5, 6, 9, 10};
 
     private final Check check = new Check();
     private final String[] parts = Files.readString(DOCUMENT).split("(?m)^## ");
@@ -221,7 +221,8 @@ abstract class Boundaries {
         }
     }
 
-    private static List<Object> later(YesNoLab lab, int bound) {
+    /** What a laboratory answers from now on. */
+    static List<Object> later(YesNoLab lab, int bound) {
         List<Object> answers = new ArrayList<>();
         answers.add(lab.functions());
         answers.add(lab.checksum());
