@@ -676,7 +676,8 @@ public final class YesNoLab {
         if (what == 'b') {
             return blocks.mostAt(lettersOf(function), tableOf(function), input);
         }
-        return Integer.bitCount(cubesOf(function).leastCertificate(input));
+        cubes.read(lettersOf(function), tableOf(function));
+        return Integer.bitCount(cubes.leastCertificate(input));
     }
 
     private int greatest(int function, int letters, char what) {
